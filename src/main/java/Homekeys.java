@@ -388,8 +388,8 @@ public final class Homekeys {
 
         private Student() {
             for (int key = 0; key < KEYS; key++) {
-                keys[key] = key;
-                letters[key] = key;
+                put(keys, key, key);
+                put(letters, key, key);
             }
         }
 
