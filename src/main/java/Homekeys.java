@@ -44,7 +44,7 @@ public final class Homekeys {
 
     // ---- students, layouts
 
-    public int student() {
+    public int student() throws IllegalStateException {
         for (int number = 0; number < students.length; number++) {
             if (students[number] == null) {
                 students[number] = new Student();
@@ -54,7 +54,7 @@ public final class Homekeys {
         throw new IllegalStateException("there are 5 students");
     }
 
-    public int carry(int student, int way) {
+    public int carry(int student, int way) throws IndexOutOfBoundsException, IllegalArgumentException {
         Student typist = studentAt(student);
         if (way != BY_KEY && way != BY_LETTER) {
             throw new IllegalArgumentException("way is out of range");
@@ -64,7 +64,7 @@ public final class Homekeys {
         return before;
     }
 
-    public int swap(int student, int key, int other) {
+    public int swap(int student, int key, int other) throws IndexOutOfBoundsException, IllegalArgumentException {
         Student typist = studentAt(student);
         needTwoKeys(key, other);
         int saved = typist.savedBy(key, other);
@@ -72,13 +72,13 @@ public final class Homekeys {
         return saved;
     }
 
-    public int keyOf(int student, int letter) {
+    public int keyOf(int student, int letter) throws IndexOutOfBoundsException {
         Student typist = studentAt(student);
         needLetter(letter);
         return at(typist.keys, letter);
     }
 
-    public int letterOn(int student, int key) {
+    public int letterOn(int student, int key) throws IndexOutOfBoundsException {
         Student typist = studentAt(student);
         needKey(key);
         return at(typist.letters, key);
@@ -86,14 +86,14 @@ public final class Homekeys {
 
     // ---- typing
 
-    public boolean press(int student, int letter, int key) {
+    public boolean press(int student, int letter, int key) throws IndexOutOfBoundsException {
         Student typist = studentAt(student);
         needLetter(letter);
         needKey(key);
         return typist.type(letter, key);
     }
 
-    public int slips(int student, int what, int which) {
+    public int slips(int student, int what, int which) throws IndexOutOfBoundsException, IllegalArgumentException {
         Student typist = studentAt(student);
         if (which < 0 || which >= groups(what)) {
             throw new IllegalArgumentException("what or which is out of range");
@@ -101,18 +101,18 @@ public final class Homekeys {
         return typist.slipsOf(what, which);
     }
 
-    public int pair(int student, int first, int letter) {
+    public int pair(int student, int first, int letter) throws IndexOutOfBoundsException {
         Student typist = studentAt(student);
         needLetter(first);
         needLetter(letter);
         return at(typist.pairSlips, pairPlace(first, letter));
     }
 
-    public int pressed(int student) {
+    public int pressed(int student) throws IndexOutOfBoundsException {
         return studentAt(student).presses;
     }
 
-    public int history(int student, int place) {
+    public int history(int student, int place) throws IndexOutOfBoundsException {
         Student typist = studentAt(student);
         if (place < 0) {
             throw new IndexOutOfBoundsException("place is below 0");
@@ -120,17 +120,17 @@ public final class Homekeys {
         return place < typist.kept ? at(typist.typed, place) : NONE;
     }
 
-    public int time(int student) {
+    public int time(int student) throws IndexOutOfBoundsException {
         return studentAt(student).timeWith(NONE, NONE);
     }
 
-    public int timeAnew(int student) {
+    public int timeAnew(int student) throws IndexOutOfBoundsException {
         return studentAt(student).timeByCounts(follows);
     }
 
     // ---- lessons, the maker
 
-    public int lesson(int student, int place) {
+    public int lesson(int student, int place) throws IndexOutOfBoundsException {
         Student typist = studentAt(student);
         if (place < 0 || place >= LESSON_PLACES) {
             throw new IndexOutOfBoundsException("no such place");
@@ -138,19 +138,19 @@ public final class Homekeys {
         return typist.slippingLetter(place % LESSON_LETTERS);
     }
 
-    public int saves(int student, int key, int other) {
+    public int saves(int student, int key, int other) throws IndexOutOfBoundsException, IllegalArgumentException {
         Student typist = studentAt(student);
         needTwoKeys(key, other);
         return typist.savedBy(key, other);
     }
 
-    public int best(int student) {
+    public int best(int student) throws IndexOutOfBoundsException {
         return studentAt(student).bestExchange();
     }
 
     // ---- contests
 
-    public int draft(int letter) {
+    public int draft(int letter) throws IndexOutOfBoundsException, IllegalStateException {
         needLetter(letter);
         if (drafted >= MOST_DRAFTED) {
             throw new IllegalStateException("the draft has 24 letters");
@@ -166,7 +166,7 @@ public final class Homekeys {
         return before;
     }
 
-    public int contest() {
+    public int contest() throws IllegalStateException {
         if (drafted == 0) {
             throw new IllegalStateException("the draft is empty");
         }
@@ -183,7 +183,8 @@ public final class Homekeys {
         throw new IllegalStateException("there were 6 contests");
     }
 
-    public int result(int contest, int student, int ticks) {
+    public int result(int contest, int student, int ticks)
+            throws IndexOutOfBoundsException, IllegalArgumentException, IllegalStateException {
         Contest held = contestAt(contest);
         int time = entrantTime(held, student);
         if (ticks < 1 || ticks > MOST_TICKS) {
@@ -198,7 +199,7 @@ public final class Homekeys {
         return score;
     }
 
-    public int of(int contest, int student, int what) {
+    public int of(int contest, int student, int what) throws IndexOutOfBoundsException, IllegalArgumentException {
         Contest held = contestAt(contest);
         int time = entrantTime(held, student);
         if (what < TEXT_TIME || what > RANK) {
@@ -210,7 +211,7 @@ public final class Homekeys {
         return held.hasResult(student) ? held.told(student, what) : NONE;
     }
 
-    public int ranked(int contest, int rank) {
+    public int ranked(int contest, int rank) throws IndexOutOfBoundsException {
         Contest held = contestAt(contest);
         if (rank < 0) {
             throw new IndexOutOfBoundsException("rank is below 0");

@@ -14,12 +14,32 @@ import java.util.regex.Pattern;
 
 /** The face of the class is the document's, and the source keeps to those rules of LANGUAGE.md that are easily seen. */
 public final class FaceTest {
+    private static final String INDEX = "IndexOutOfBoundsException", ARGUMENT = "IllegalArgumentException";
+    private static final String STATE = "IllegalStateException";
+    /** With the throws clauses, in whose order the document says which exception goes first. */
     private static final String[] FACE = {
-        "int student()", "int carry(int,int)", "int swap(int,int,int)", "int keyOf(int,int)", "int letterOn(int,int)",
-        "boolean press(int,int,int)", "int slips(int,int,int)", "int pair(int,int,int)", "int pressed(int)",
-        "int history(int,int)", "int time(int)", "int timeAnew(int)", "int lesson(int,int)", "int saves(int,int,int)",
-        "int best(int)", "int draft(int)", "int clear()", "int contest()", "int result(int,int,int)",
-        "int of(int,int,int)", "int ranked(int,int)", "NONE", "BY_KEY", "BY_LETTER", "Homekeys()"};
+        thrower("int student()", STATE),
+        thrower("int carry(int,int)", INDEX, ARGUMENT),
+        thrower("int swap(int,int,int)", INDEX, ARGUMENT),
+        thrower("int keyOf(int,int)", INDEX),
+        thrower("int letterOn(int,int)", INDEX),
+        thrower("boolean press(int,int,int)", INDEX),
+        thrower("int slips(int,int,int)", INDEX, ARGUMENT),
+        thrower("int pair(int,int,int)", INDEX),
+        thrower("int pressed(int)", INDEX),
+        thrower("int history(int,int)", INDEX),
+        thrower("int time(int)", INDEX),
+        thrower("int timeAnew(int)", INDEX),
+        thrower("int lesson(int,int)", INDEX),
+        thrower("int saves(int,int,int)", INDEX, ARGUMENT),
+        thrower("int best(int)", INDEX),
+        thrower("int draft(int)", INDEX, STATE),
+        "int clear()",
+        thrower("int contest()", STATE),
+        thrower("int result(int,int,int)", INDEX, ARGUMENT, STATE),
+        thrower("int of(int,int,int)", INDEX, ARGUMENT),
+        thrower("int ranked(int,int)", INDEX),
+        "NONE", "BY_KEY", "BY_LETTER", "Homekeys()"};
     /** What rules 3 to 6 leave out, as patterns of the source without its comments and texts. */
     private static final String[] LEFT_OUT = {"->", "::", "\\bfinally\\b", "\\bsynchronized\\b", "\\bassert\\b",
         "\\bnative\\b", "\\bvolatile\\b", "\\bstatic\\s*\\{", "\\bpackage\\b", "\\btry\\b", "\\bcatch\\b", "\\bThread\\b",
@@ -64,12 +84,26 @@ public final class FaceTest {
         return "(" + String.join(",", names) + ")";
     }
 
+    private static String thrower(String member, String... exceptions) {
+        return exceptions.length == 0 ? member : member + " throws " + String.join(", ", exceptions);
+    }
+
+    /** A member with the exceptions that it declares, in the order in which it does. */
+    private static String withThrows(String member, Class<?>[] exceptions) {
+        String[] names = new String[exceptions.length];
+        for (int i = 0; i < names.length; i++) {
+            names[i] = exceptions[i].getName().replaceFirst("^java\\.lang\\.", "");
+        }
+        return thrower(member, names);
+    }
+
     private static void faceIsTheDocuments() {
         Set<String> seen = new TreeSet<>();
         Set<String> open = new TreeSet<>();
         for (Method method : Homekeys.class.getDeclaredMethods()) {
             if (!Modifier.isPrivate(method.getModifiers())) {
-                seen.add(method.getReturnType() + " " + method.getName() + signature(method.getParameterTypes()));
+                String head = method.getReturnType() + " " + method.getName() + signature(method.getParameterTypes());
+                seen.add(withThrows(head, method.getExceptionTypes()));
                 open.add(method.getName());
                 if (!Modifier.isPublic(method.getModifiers()) || Modifier.isStatic(method.getModifiers())) {
                     report("not a public method of objects: " + method);
@@ -86,11 +120,20 @@ public final class FaceTest {
         }
         for (Constructor<?> constructor : Homekeys.class.getDeclaredConstructors()) {
             if (!Modifier.isPrivate(constructor.getModifiers())) {
-                seen.add("Homekeys" + signature(constructor.getParameterTypes()));
+                String head = "Homekeys" + signature(constructor.getParameterTypes());
+                seen.add(withThrows(head, constructor.getExceptionTypes()));
             }
         }
-        if (!seen.equals(new TreeSet<>(List.of(FACE)))) {
-            report("the face is " + seen);
+        Set<String> due = new TreeSet<>(List.of(FACE));
+        for (String member : due) {
+            if (!seen.contains(member)) {
+                report("wanting or changed: " + member);
+            }
+        }
+        for (String member : seen) {
+            if (!due.contains(member)) {
+                report("not of the document's face: " + member);
+            }
         }
         if (Homekeys.class.getModifiers() != (Modifier.PUBLIC | Modifier.FINAL)) {
             report("the class is not public and final alone");
@@ -158,9 +201,10 @@ public final class FaceTest {
 
     /** By the indents: a line that opens a block inside a class, up to the line that closes it. */
     private static void methodsAreShort(String code) {
-        String[] lines = code.split("\n");
+        // A throws clause may stand on a line of its own.
+        String[] lines = code.replaceAll("\\)\\s+throws ", ") throws ").split("\n");
         for (int i = 0; i < lines.length; i++) {
-            Matcher opens = Pattern.compile("^( {4}| {8})\\S.*\\) \\{$").matcher(lines[i]);
+            Matcher opens = Pattern.compile("^( {4}| {8})\\S.*\\)( throws [\\w, ]+)? \\{$").matcher(lines[i]);
             if (opens.matches()) {
                 int end = i;
                 while (end < lines.length && !lines[end].equals(opens.group(1) + "}")) {
