@@ -54,8 +54,8 @@ public final class FaceTest {
         for (Class<?> type : classes()) {
             classKeepsTheRules(type);
         }
-        if (args.length != 1) {
-            report("the source's path is wanted as the argument");
+        if (args.length == 0) {
+            report("the source's path is wanted as the first argument");
         } else {
             sourceKeepsTheRules(Files.readString(Path.of(args[0]), StandardCharsets.UTF_8));
         }

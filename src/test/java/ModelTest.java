@@ -8,7 +8,7 @@ import java.util.List;
  */
 public final class ModelTest {
     private static final int RUNS = 600, CALLS = 512, MOST_REPORTS = 20;
-    private static final long INDEX = Long.MIN_VALUE, ARGUMENT = Long.MIN_VALUE + 1, STATE = Long.MIN_VALUE + 2;
+    private static final long INDEX = Calls.INDEX, ARGUMENT = Calls.ARGUMENT, STATE = Calls.STATE;
     private static final String[] NAMES = {"student", "carry", "swap", "keyOf", "letterOn", "press", "slips", "pair",
         "pressed", "history", "time", "timeAnew", "lesson", "saves", "best", "draft", "clear", "contest", "result",
         "of", "ranked"};
@@ -47,7 +47,7 @@ public final class ModelTest {
         for (int i = 0; i < CALLS; i++) {
             int call = i < students ? 0 : pick(WEIGHTS);
             int[] with = arguments(call, model);
-            long got = ofProgram(program, call, with);
+            long got = Calls.answer(program, NAMES[call], with);
             long want = model.answer(call, with);
             done.add(NAMES[call] + java.util.Arrays.toString(with) + " = " + want);
             if (got != want) {
@@ -113,45 +113,6 @@ public final class ModelTest {
             case "result": return below(4) == 0 ? 100000 : 40;
             case "of": return 4;
             default: return 12;
-        }
-    }
-
-    private static long ofProgram(Homekeys x, int call, int[] a) {
-        try {
-            switch (NAMES[call]) {
-                case "student": return x.student();
-                case "carry": return x.carry(a[0], a[1]);
-                case "swap": return x.swap(a[0], a[1], a[2]);
-                case "keyOf": return x.keyOf(a[0], a[1]);
-                case "letterOn": return x.letterOn(a[0], a[1]);
-                case "press": return x.press(a[0], a[1], a[2]) ? 1 : 0;
-                case "slips": return x.slips(a[0], a[1], a[2]);
-                case "pair": return x.pair(a[0], a[1], a[2]);
-                case "pressed": return x.pressed(a[0]);
-                case "history": return x.history(a[0], a[1]);
-                case "time": return x.time(a[0]);
-                case "timeAnew": return x.timeAnew(a[0]);
-                case "lesson": return x.lesson(a[0], a[1]);
-                case "saves": return x.saves(a[0], a[1], a[2]);
-                case "best": return x.best(a[0]);
-                case "draft": return x.draft(a[0]);
-                case "clear": return x.clear();
-                case "contest": return x.contest();
-                case "result": return x.result(a[0], a[1], a[2]);
-                case "of": return x.of(a[0], a[1], a[2]);
-                default: return x.ranked(a[0], a[1]);
-            }
-        } catch (RuntimeException e) {
-            if (e.getClass() == IndexOutOfBoundsException.class) {
-                return INDEX;
-            }
-            if (e.getClass() == IllegalArgumentException.class) {
-                return ARGUMENT;
-            }
-            if (e.getClass() == IllegalStateException.class) {
-                return STATE;
-            }
-            throw e;
         }
     }
 
