@@ -48,25 +48,28 @@ final class PromiseSentences extends Sentences {
 
     /** A run of all kinds of calls, one a step: what was done and what is asked takes turns. */
     private static long oneOfMany(School x, int step) {
-        int student = step / 6 % 3;
+        int student = (step + step / 18) % 3;
         int a = step * 5 % 12;
         int b = (a + 1 + step % 11) % 12;
         if (step < 5) {
             return step % 2 == 0 ? x.answer("student") : x.answer("draft", step);
         }
-        switch (step % 15) {
+        switch (step % 18) {
             case 0: return x.answer("swap", student, a, b);
             case 1: return x.answer("time", student);
             case 2: return x.answer("slips", student, 3, 0);
             case 3: return x.answer("lesson", student, step % 100);
             case 4: return x.answer("best", student);
             case 5: return x.answer("draft", a);
-            case 6: return x.answer("carry", student, step / 15 % 2);
+            case 6: return x.answer("carry", student, step / 18 % 2);
             case 7: return x.answer("pair", student, a, b);
             case 8: return x.answer("contest");
-            case 9: return x.answer("result", step / 15 % 6, student, step);
-            case 10: return x.answer("ranked", step / 15 % 6, 0);
-            case 11: return x.answer("of", step / 15 % 6, student, step % 4);
+            case 9: return x.answer("result", step / 18 % 6, student, step);
+            case 10: return x.answer("ranked", step / 18 % 6, 0);
+            case 11: return x.answer("of", step / 18 % 6, student, step % 4);
+            case 12: return x.answer("pressed", student);
+            case 13: return x.answer("history", student, step % 4);
+            case 14: return x.answer("keyOf", student, a);
             default: return x.answer("press", student, a, b);
         }
     }
@@ -868,6 +871,13 @@ final class PromiseSentences extends Sentences {
     @Sentence(promise = 17, value = NOTHING_CHANGES)
     static void aRefusedDraftChangesNothing() {
         changesNothing("draft", row(12), row(-1), row(LOWEST), row(HIGHEST));
+        School x = Scene.FULL_DRAFT.played();
+        for (int letter = -1; letter <= 12; letter++) {
+            due(x, letter < 0 || letter > 11 ? INDEX : STATE, "draft", letter);
+        }
+        due(x, 0, "contest");
+        due(x, 2 + 23 * 7, "of", 0, 0, 0);
+        due(x, 1, "draft", 0);
     }
 
     @Sentence(promise = 17, value = FIRST_NAMED)

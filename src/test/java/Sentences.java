@@ -9,7 +9,8 @@ abstract class Sentences {
     static final long INDEX = Calls.INDEX, ARGUMENT = Calls.ARGUMENT, STATE = Calls.STATE;
     static final int NONE = -1, LOWEST = Integer.MIN_VALUE, HIGHEST = Integer.MAX_VALUE;
 
-    private static Sentence now;
+    /** The test that runs; null when none does. */
+    private static Method now;
     private static int wrong = 0;
 
     /** The tests of classes, ordered by promise. */
@@ -29,11 +30,11 @@ abstract class Sentences {
 
     static void run(List<Method> tests) throws IllegalAccessException {
         for (Method test : tests) {
-            now = test.getAnnotation(Sentence.class);
+            now = test;
             try {
                 test.invoke(null);
             } catch (InvocationTargetException e) {
-                report("the test " + test.getName() + " broke off: " + e.getCause());
+                report("broke off: " + e.getCause());
             }
         }
         now = null;
@@ -41,7 +42,11 @@ abstract class Sentences {
 
     static void report(String line) {
         wrong++;
-        System.out.println(now == null ? line : "promise " + now.promise() + ", \"" + now.value() + "\": " + line);
+        System.out.println(now == null ? line : heading(now.getAnnotation(Sentence.class)) + line);
+    }
+
+    private static String heading(Sentence sentence) {
+        return "promise " + sentence.promise() + ", \"" + sentence.value() + "\", " + now.getName() + ": ";
     }
 
     static int wrong() {
