@@ -435,6 +435,15 @@ final class TermSentences extends Sentences {
     }
 
     @Sentence(promise = 14, value = LESSON)
+    static void theFirstAndTheLastLetterOfALesson() {
+        lessonIs(new School().students(1).slips(0, 0, 1), 0, 1, 2);
+        lessonIs(new School().students(1).slips(0, 0, 2).slips(0, 11, 1), 0, 11, 1);
+        lessonIs(new School().students(1).slips(0, 0, 1).slips(0, 11, 2), 11, 0, 1);
+        lessonIs(new School().students(1).slips(0, 0, 1).slips(0, 11, 2).slips(0, 5, 3), 5, 11, 0);
+        lessonIs(new School().students(1).slips(0, 0, 2).slips(0, 11, 1).slips(0, 5, 3), 5, 0, 11);
+    }
+
+    @Sentence(promise = 14, value = LESSON)
     static void ofTheSameSlipsTheLowerLetterIsFirst() {
         School x = new School().students(1).slips(0, 11, 1).slips(0, 10, 1).slips(0, 9, 1);
         lessonIs(x, 9, 10, 11);
@@ -545,6 +554,40 @@ final class TermSentences extends Sentences {
         due(x, 5, "saves", 0, 1, 5);
         due(x, 5, "saves", 0, 1, 11);
         due(x, 12 * 1 + 5, "best", 0);
+    }
+
+    /** Could a key -1 or 12 be swapped, such a swap would save more in these, or as much and come first. */
+    @Sentence(promise = 16, value = BEST)
+    static void theBestSwapIsOfKeysThatThereAre() {
+        bestIs(12 * 0 + 3, 3, 9);
+        bestIs(12 * 0 + 1, 6, 0, 9, 6);
+        bestIs(12 * 5 + 6, 6, 9, 10, 3, 8, 4, 7, 9, 5, 9, 1, 11, 2, 3, 0, 3);
+    }
+
+    @Sentence(promise = 16, value = BEST)
+    static void theBestSwapIsTheFirstOfThoseThatSaveMost() {
+        for (int run = 0; run < 60; run++) {
+            School x = new School().students(1).swaps(0, run % 12, (run + 1 + run % 11) % 12);
+            for (int i = 0; i <= run % 34; i++) {
+                x.types(0, (i * i * (run + 5) + 7 * i + run * run) % 12);
+            }
+            due(x, bestBySaves(x), "best", 0);
+        }
+    }
+
+    private static long bestBySaves(School x) {
+        long most = 0;
+        long found = NONE;
+        for (int key = 0; key < 12; key++) {
+            for (int other = key + 1; other < 12; other++) {
+                long saved = x.answer("saves", 0, key, other);
+                if (saved > most) {
+                    most = saved;
+                    found = 12 * key + other;
+                }
+            }
+        }
+        return found;
     }
 
     // ---- contests
