@@ -29,7 +29,7 @@ public final class SentenceTest {
     public static void main(String[] args) throws IOException, IllegalAccessException {
         List<Method> tests = Sentences.testsOf(TermSentences.class, PromiseSentences.class);
         Sentences.run(tests);
-        if (args.length != 2) {
+        if (args.length < 2) {
             Sentences.report("the paths of the source and of the document are wanted as arguments");
         } else {
             compare(tests, Files.readString(Path.of(args[1]), StandardCharsets.UTF_8));
